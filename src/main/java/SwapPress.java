@@ -698,12 +698,13 @@ public final class SwapPress {
             }
         }
 
-        int findParty(byte[] text, int at, int length) {
-            return find(0, parties, text, at, length);
-        }
-
-        int findKind(byte[] text, int at, int length) {
-            return find(FIRST_KIND, kinds, text, at, length);
+        int find(int first, int number, byte[] text, int at, int length) {
+            for (int i = 0; i < number; i++) {
+                if (same(first + i, text, at, length)) {
+                    return i;
+                }
+            }
+            return NONE;
         }
 
         private void put(int slot, byte[] text, int at, int length) {
@@ -711,15 +712,6 @@ public final class SwapPress {
             for (int i = 0; i < lengths[slot]; i++) {
                 letters[slot * NAME_LETTERS + i] = text[at + i];
             }
-        }
-
-        private int find(int first, int number, byte[] text, int at, int length) {
-            for (int i = 0; i < number; i++) {
-                if (same(first + i, text, at, length)) {
-                    return i;
-                }
-            }
-            return NONE;
         }
 
         private boolean same(int slot, byte[] text, int at, int length) {
@@ -923,9 +915,16 @@ public final class SwapPress {
         private static final int WITH_ITSELF = 5;
 
         private static final int AT_END = 0;
-        private static final int AT_WORD = 1;
-        private static final int AT_NUMBER = 2;
-        private static final int AT_SIGN = 3;
+        private static final int AT_OTHER = 1;
+        private static final int AT_SEMICOLON = 2;
+        private static final int AT_NUMBER = 3;
+        private static final int AT_NAME = 4;
+        private static final int AT_PARTY = 5;
+        private static final int AT_KIND = 6;
+        private static final int AT_TRADE = 7;
+        private static final int AT_KEEP = 8;
+        private static final int AT_CAP = 9;
+        private static final int AT_MODE = 10;
 
         int fault;
         int place = NONE;
@@ -957,20 +956,28 @@ public final class SwapPress {
         }
 
         private void readLine() {
-            if (isWord("party")) {
-                readParty();
-            } else if (isWord("kind")) {
-                readKind();
-            } else if (isWord("trade")) {
-                readTrade();
-            } else if (isWord("keep")) {
-                readKeep();
-            } else if (isWord("cap")) {
-                readCap();
-            } else if (isWord("mode")) {
-                readMode();
-            } else {
-                fail(OUT_OF_PLACE);
+            switch (token) {
+                case AT_PARTY:
+                    readParty();
+                    break;
+                case AT_KIND:
+                    readKind();
+                    break;
+                case AT_TRADE:
+                    readTrade();
+                    break;
+                case AT_KEEP:
+                    readKeep();
+                    break;
+                case AT_CAP:
+                    readCap();
+                    break;
+                case AT_MODE:
+                    readMode();
+                    break;
+                default:
+                    fail(OUT_OF_PLACE);
+                    break;
             }
             readSemicolon();
         }
@@ -1006,7 +1013,8 @@ public final class SwapPress {
             next();
             int giver = knownParty();
             next();
-            int taker = otherParty(giver);
+            int taker = knownParty();
+            failIfSame(giver, taker);
             next();
             int amount = numberWithin(1, MOST_AMOUNT);
             next();
@@ -1033,7 +1041,8 @@ public final class SwapPress {
             next();
             int giver = knownParty();
             next();
-            int taker = otherParty(giver);
+            int taker = knownParty();
+            failIfSame(giver, taker);
             next();
             int most = numberWithin(0, MOST_CAP);
             if (fault == 0) {
@@ -1056,14 +1065,14 @@ public final class SwapPress {
         }
 
         private void readSemicolon() {
-            if (token != AT_SIGN || text[tokenAt] != ';') {
+            if (token != AT_SEMICOLON) {
                 fail(OUT_OF_PLACE);
             }
             next();
         }
 
         private void checkNewName() {
-            if (!isName()) {
+            if (token != AT_NAME) {
                 fail(OUT_OF_PLACE);
             } else if (partyHere() != NONE || kindHere() != NONE) {
                 fail(WRONG_NAME);
@@ -1071,7 +1080,7 @@ public final class SwapPress {
         }
 
         private int knownParty() {
-            if (!isName()) {
+            if (token != AT_NAME) {
                 fail(OUT_OF_PLACE);
                 return NONE;
             }
@@ -1082,16 +1091,14 @@ public final class SwapPress {
             return party;
         }
 
-        private int otherParty(int first) {
-            int party = knownParty();
-            if (party == first) {
+        private void failIfSame(int giver, int taker) {
+            if (giver == taker) {
                 fail(WITH_ITSELF);
             }
-            return party;
         }
 
         private int knownKind() {
-            if (!isName()) {
+            if (token != AT_NAME) {
                 fail(OUT_OF_PLACE);
                 return NONE;
             }
@@ -1122,21 +1129,15 @@ public final class SwapPress {
         }
 
         private int partyHere() {
-            return names.findParty(text, tokenAt, tokenEnd - tokenAt);
+            return names.find(0, names.parties, text, tokenAt, tokenEnd - tokenAt);
         }
 
         private int kindHere() {
-            return names.findKind(text, tokenAt, tokenEnd - tokenAt);
-        }
-
-        private boolean isName() {
-            return token == AT_WORD && tokenEnd - tokenAt <= NAME_LETTERS
-                && !isWord("party") && !isWord("kind") && !isWord("trade")
-                && !isWord("keep") && !isWord("cap") && !isWord("mode");
+            return names.find(Names.FIRST_KIND, names.kinds, text, tokenAt, tokenEnd - tokenAt);
         }
 
         private boolean isWord(String word) {
-            if (token != AT_WORD || tokenEnd - tokenAt != word.length()) {
+            if (tokenEnd - tokenAt != word.length()) {
                 return false;
             }
             for (int i = 0; i < word.length(); i++) {
@@ -1164,19 +1165,41 @@ public final class SwapPress {
             if (tokenAt >= end) {
                 token = AT_END;
             } else if (isLetter(text[tokenAt])) {
-                token = AT_WORD;
                 while (tokenEnd < end && isLetter(text[tokenEnd])) {
                     tokenEnd++;
                 }
+                token = wordToken();
             } else if (isDigit(text[tokenAt])) {
                 token = AT_NUMBER;
                 while (tokenEnd < end && isDigit(text[tokenEnd])) {
                     tokenEnd++;
                 }
             } else {
-                token = AT_SIGN;
+                token = text[tokenAt] == ';' ? AT_SEMICOLON : AT_OTHER;
                 tokenEnd++;
             }
+        }
+
+        private int wordToken() {
+            if (isWord("party")) {
+                return AT_PARTY;
+            }
+            if (isWord("kind")) {
+                return AT_KIND;
+            }
+            if (isWord("trade")) {
+                return AT_TRADE;
+            }
+            if (isWord("keep")) {
+                return AT_KEEP;
+            }
+            if (isWord("cap")) {
+                return AT_CAP;
+            }
+            if (isWord("mode")) {
+                return AT_MODE;
+            }
+            return tokenEnd - tokenAt <= NAME_LETTERS ? AT_NAME : AT_OTHER;
         }
 
         private static boolean isLetter(byte sign) {
@@ -1303,10 +1326,10 @@ public final class SwapPress {
             stepsHome[home] = 0;
             queue[0] = home;
             int tail = 1;
-            for (int head = 0; head < tail; head++) {
+            for (int head = 0; head < tail && head < MOST_PARTIES; head++) {
                 int reached = queue[head];
                 for (int other = home + 1; other < flows.parties; other++) {
-                    if (stepsHome[other] == NONE && flows.goes(other, reached)) {
+                    if (tail < MOST_PARTIES && stepsHome[other] == NONE && flows.goes(other, reached)) {
                         stepsHome[other] = stepsHome[reached] + 1;
                         queue[tail] = other;
                         tail++;
@@ -1557,10 +1580,10 @@ public final class SwapPress {
                     tail++;
                 }
             }
-            for (int head = 0; head < tail; head++) {
+            for (int head = 0; head < tail && head < NODES; head++) {
                 int node = queue[head];
                 for (int next = 1 - (node & 1); next < nodes; next += 2) {
-                    if (before[next] == NOT_REACHED && room[step(node, next)] > 0
+                    if (tail < NODES && before[next] == NOT_REACHED && room[step(node, next)] > 0
                         && price(node, next) == 0) {
                         before[next] = node;
                         if (left[next] < 0) {
