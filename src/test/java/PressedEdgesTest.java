@@ -361,6 +361,9 @@ public final class PressedEdgesTest {
         due("past d and e", between.gain(2, 0, 0), 2);
         due("past d, e and a", between.gain(2, 1, 0), 3);
         due("enough past d", between.enough(2, 4, 0), 2);
+        due("past e alone", between.gain(3, 0, 0), 1);
+        due("past e and a", between.gain(3, 1, 0), 2);
+        due("enough past e", between.enough(3, 0, 0), 2);
     }
 
     private static void gainOfTheGreatestCap() {
