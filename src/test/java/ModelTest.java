@@ -7,6 +7,7 @@ public final class ModelTest {
     private static final Checks CHECKS = new Checks("ModelTest");
     private static final int RUNS = Integer.getInteger("runs", 150);
     private static final int TEXTS = Integer.getInteger("texts", 20000);
+    private static final int CROWDS = Integer.getInteger("crowds", 60);
     private static final String[] NAMES = {"a", "b", "c", "dd", "e", "abcdefgh", "g", "h", "ab", "k", "l", "m", "oil", "p"};
 
     private final Random random;
@@ -25,6 +26,9 @@ public final class ModelTest {
         new ModelTest(0).texts();
         for (int seed = 1; seed <= 400; seed++) {
             new ModelTest(-seed).smallOnes();
+        }
+        for (int seed = 1; seed <= CROWDS; seed++) {
+            new ModelTest(1000000 + seed).crowd();
         }
         CHECKS.end();
     }
@@ -403,5 +407,53 @@ public final class ModelTest {
             }
         }
         same("least", press.least(0), tried == null ? -1 : (int) sum);
+    }
+
+    /** Many parties, and caps so low that least ways go by many; each couple is asked of. At most 486 calls. */
+    private void crowd() {
+        int n = 5 + random.nextInt(4);
+        int scale = random.nextInt(3) == 0 ? 100000 : 1;
+        int caps = 3 + random.nextInt(14);
+        tell(Checks.parties(n) + "kind k;mode " + (random.nextInt(3) > 0 ? 2 : random.nextInt(4)) + ";");
+        int trades = 5 + random.nextInt(36);
+        for (int i = 0; i < trades; i++) {
+            int from = random.nextInt(n);
+            int to = (from + 1 + random.nextInt(n - 1)) % n;
+            int amount = scale * (1 + random.nextInt(4));
+            same("trade(" + from + ", " + to + ", " + amount + ", 0)", press.trade(from, to, amount, 0),
+                model.trade(from, to, amount, 0));
+        }
+        for (int a = 0; a < n; a++) {
+            for (int b = 0; b < n; b++) {
+                if (a != b) {
+                    int cap = scale * Math.max(0, random.nextInt(caps + 4) - 3);
+                    same("cap(" + a + ", " + b + ", " + cap + ")", press.cap(a, b, cap), model.cap(a, b, cap));
+                }
+            }
+        }
+        for (int a = 0; a < n; a++) {
+            same("without(" + a + ", 0)", press.without(a, 0), model.without(a, 0));
+            same("relief(" + a + ", 0)", press.relief(a, 0), model.relief(a, 0));
+            for (int b = 0; b < n; b++) {
+                if (a != b) {
+                    askOfCouple(a, b);
+                }
+            }
+        }
+        same("least(0)", press.least(0), model.least(0));
+        same("press(0)", press.press(0), model.press(0));
+        int left = press.count(2);
+        for (int t = 0; t < left; t++) {
+            same("tradeOf(" + t + ", 2)", press.tradeOf(t, 2), model.tradeOf(t, 2));
+        }
+    }
+
+    private void askOfCouple(int a, int b) {
+        String ab = "(" + a + ", " + b + ", 0)";
+        same("pressed" + ab, press.pressed(a, b, 0), model.pressed(a, b, 0));
+        same("span low" + ab, press.span(a, b, 0, 0), model.span(a, b, 0, 0));
+        same("span high" + ab, press.span(a, b, 0, 1), model.span(a, b, 0, 1));
+        same("gain" + ab, press.gain(a, b, 0), model.gain(a, b, 0));
+        same("enough" + ab, press.enough(a, b, 0), model.enough(a, b, 0));
     }
 }
